@@ -1,0 +1,42 @@
+/** What the tests share: counting answers that are not as due, and telling a SET by its letters. */
+final class Due {
+    private static int asDue = 0;
+    private static int wrong = 0;
+
+    private Due() {
+    }
+
+    static void due(String call, long got, long want) {
+        if (got == want) {
+            asDue++;
+        } else {
+            wrong++;
+            System.out.println(call + " answered " + got + ", due is " + want);
+        }
+    }
+
+    static void holds(String what, boolean holds) {
+        due(what, holds ? 1 : 0, 1);
+    }
+
+    /** Types the letters and answers what set() answers. */
+    static int tell(RestRegisters x, String text) {
+        for (int k = 0; k < text.length(); k++) {
+            due("type of letter " + k + " of '" + text + "'", x.type(text.charAt(k)), k + 1);
+        }
+        return x.set();
+    }
+
+    static RestRegisters with(String text) {
+        RestRegisters x = new RestRegisters();
+        holds("'" + text + "' is a set", tell(x, text) > 0);
+        return x;
+    }
+
+    static void end(String test) {
+        System.out.println(test + ": " + asDue + " answers as due, " + wrong + " not");
+        if (wrong != 0) {
+            System.exit(1);
+        }
+    }
+}
