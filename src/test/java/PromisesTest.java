@@ -68,6 +68,7 @@ public final class PromisesTest {
         promise33Drop();
         promise34Item();
         promise35Copy();
+        allSixWheels();
         Due.end("PromisesTest");
     }
 
@@ -162,16 +163,18 @@ public final class PromisesTest {
     private static void promise3WhatStays() {
         RestRegisters x = small();
         due("lay", x.lay(2, 209), 0);
+        due("lay", x.lay(0, 209), 0);
         due("seed", x.seed(77), 1);
         due("sheet", x.sheet(1, 2, 3), 3);
         due("a fault", Due.tell(x, "p1"), -21);
         due("value behind a fault", x.at(2, 0), 209);
-        due("undo known behind a fault", x.count(6), 1);
+        due("undo known behind a fault", x.count(6), 2);
         due("draw behind a fault", x.seed(78), 77);
         due("image", x.image(), 1);
         due("a set", Due.tell(x, "p2,p3;p5,p7"), 4);
         due("value behind a set", x.at(2, 0), 0);
         rests("behind a set", x, 2, 0, 0, 0, 0);
+        rests("behind a set", x, 0, 0, 0, 0, 0);
         due("undo behind a set", x.undo(), NONE);
         due("draw behind a set", x.seed(79), 78);
         due("sheet behind a set", x.drop(1), 3);
@@ -305,6 +308,9 @@ public final class PromisesTest {
         due("none is PLAIN", honest.count(5), 0);
         honest.lay(0, 35);
         due("all are LEGAL", honest.count(4), 15);
+        x.lay(0, 6);
+        x.lay(1, 5);
+        due("register 0 is not LEGAL", x.count(4), 6);
     }
 
     private static void promise9Lay() {
@@ -356,6 +362,8 @@ public final class PromisesTest {
         due("17 TIMES 11", plain.times(0, 1), 187);
         due("the other one stays", plain.at(1, 0), 11);
         due("by itself", plain.times(1, 1), 121);
+        plain.lay(2, 10);
+        due("121 TIMES 10", plain.times(1, 2), 160);
         RestRegisters x = small();
         x.lay(0, 209);
         x.lay(1, 207);
@@ -379,7 +387,11 @@ public final class PromisesTest {
         rests("of 1", x, 0, 1, 2, 4, 6);
         x.lay(1, 14);
         due("of 14", x.negate(1), 196);
+        rests("0 stays 0", x, 1, 0, 1, 1, 0);
         due("back", x.negate(1), 14);
+        RestRegisters three = with("w3,p2");
+        three.lay(0, 1);
+        due("the first wheel too", three.negate(0), 5);
         due("known", x.count(6), 6);
         for (int register : OUTSIDE) {
             due("negate of register " + register, x.negate(register), BAD);
@@ -412,14 +424,16 @@ public final class PromisesTest {
         due("take", x.take(0, 1), 43);
         rests("take", x, 0, 1, 1, 3, 1);
         due("the other one stays", x.at(1, 0), 43);
+        x.lay(3, 42);
+        due("the first wheel too", x.take(3, 1), 43);
         due("alike", x.take(2, 2), BAD);
         due("what is as it was counts too", x.take(0, 1), 43);
-        due("known", x.count(6), 4);
+        due("known", x.count(6), 6);
         for (int register : OUTSIDE) {
             due("take to register " + register, x.take(register, 0), BAD);
             due("take from register " + register, x.take(0, register), BAD);
         }
-        due("known", x.count(6), 4);
+        due("known", x.count(6), 6);
     }
 
     private static void promise15Drift() {
@@ -454,9 +468,13 @@ public final class PromisesTest {
             if (draw / 2048 % 5 != 0) {
                 continue;
             }
-            RestRegisters x = with("p5,p3;p7");
+            RestRegisters one = with("p19");
+            one.seed(seed);
+            one.drift(1);
             int first = (int) (draw / 65536 % 4);
             int second = (int) (draw / 128 % 4);
+            due("seed " + seed + ": of one wheel", one.at(first, 0), 1);
+            RestRegisters x = with("p5,p3;p7");
             int wheel = (int) (draw / 256 % 3);
             int[] widths = {5, 3, 7};
             x.lay(first, 104);
@@ -619,12 +637,16 @@ public final class PromisesTest {
         due("wheel 4 alone", x.blame(0), 16);
         x.lay(0, 90089);
         due("none alone", x.blame(0), 0);
+        x.lay(0, 630);
+        due("RANGE itself", x.blame(0), 0);
         // RANGE 4, SPAN 12: 7 is 3 by another rest of the 3; by 4 alone 7, 10, 1, 4: 1 is LEGAL.
         RestRegisters y = with("p4;p3");
         y.lay(0, 7);
         due("either", y.blame(0), 3);
         y.lay(0, 5);
         due("either", y.blame(0), 3);
+        y.lay(0, 4);
+        due("either, of RANGE itself", y.blame(0), 3);
         for (int register : OUTSIDE) {
             due("blame", x.blame(register), BAD);
         }
@@ -641,6 +663,11 @@ public final class PromisesTest {
         x.lay(1, 90089);
         due("far off: which", x.nearest(1, 0), 629);
         due("far off: how many", x.nearest(1, 1), 2);
+        x.lay(1, 630);
+        due("RANGE itself: which", x.nearest(1, 0), 0);
+        due("RANGE itself: how many", x.nearest(1, 1), 2);
+        due("no wheels: which", new RestRegisters().nearest(0, 0), 0);
+        due("no wheels: how many", new RestRegisters().nearest(0, 1), 0);
         // 7 leaves 3 by 4, 1 by 3: both 3 (as the 4) and 1 (as the 3) have one other rest.
         RestRegisters y = with("p4;p3");
         y.lay(2, 7);
@@ -748,6 +775,10 @@ public final class PromisesTest {
         due("500 and 77", x.should(0, 1), 18);
         due("77 and 500", x.should(1, 0), 2);
         due("1 and 1", x.should(3, 3), 28);
+        due("the first wheel too", with("s5,p3").should(0, 0), 0);
+        RestRegisters y = with("s5,p3");
+        y.lay(1, 1);
+        due("the first wheel too", y.should(0, 1), 1);
         due("nothing is changed", x.at(0, 0), 500);
         for (int register : OUTSIDE) {
             due("should", x.should(register, 0), BAD);
@@ -853,6 +884,16 @@ public final class PromisesTest {
             due("value", x.at(2, 0), k);
         }
         due("lost", x.undo(), NONE);
+        RestRegisters y = small();
+        y.seed(11);
+        y.lay(0, 1);
+        y.image();
+        y.undo();
+        y.seed(12);
+        y.lay(0, 2);
+        y.restore();
+        y.undo();
+        due("the draw ahead of what was known then", y.seed(0), 11);
     }
 
     private static void promise29Rubbed() {
@@ -884,6 +925,15 @@ public final class PromisesTest {
         x.item(1, 3, 1, 5);
         due("three told, none has them", x.rubbed(1, 3, 1, 0), 0);
         due("three told, none has them", x.rubbed(1, 3, 1, 1), NONE);
+        x.lay(0, 630);
+        x.film(0, 0, 0, 0);
+        due("RANGE itself", x.rubbed(0, 0, 0, 0), 0);
+        due("RANGE itself", x.rubbed(0, 0, 0, 1), NONE);
+        x.lay(0, 629);
+        x.film(0, 0, 0, 0);
+        due("RANGE less 1", x.rubbed(0, 0, 0, 0), 1);
+        due("RANGE less 1", x.rubbed(0, 0, 0, 1), 629);
+        fill(x, 1, 3, 0, 0, -1, -1, -1, -1);
         for (long odd : new long[] {7, -2, (1L << 32) + 1, (1L << 32) - 1, Long.MIN_VALUE, Long.MAX_VALUE}) {
             x.item(1, 3, 1, odd);
             due("no rest: " + odd, x.rubbed(1, 3, 1, 0), 0);
@@ -959,6 +1009,11 @@ public final class PromisesTest {
             due("CAST", x.film(2, 1, (lane + 1) % 4, 99), CAST);
         }
         due("NULL", x.film(2, 0, 0, 99), NULL);
+        RestRegisters one = with("p19");
+        one.lay(0, 18);
+        fill(one, 0, 0, 7, 7, 7);
+        due("film of one wheel", one.film(0, 0, 0, 1), 1);
+        row("the items beside it stay", one, 0, 0, 7, 18, 7);
         for (int k : OUTSIDE) {
             due("no register", x.film(k, 0, 0, 0), BAD);
             due("no sheet", x.film(0, k, 0, 0), BAD);
@@ -988,7 +1043,10 @@ public final class PromisesTest {
         }
         fill(x, 1, 2, 3, 3);
         due("a new row", x.sheet(1, 2, 2), 2);
-        due("a new row is 0", x.rubbed(1, 2, 1, 1), 0);
+        for (int i = 0; i < 2; i++) {
+            due("a new row is 0", x.rubbed(1, 2, i, 1), 0);
+            due("a new row is 0", x.rubbed(1, 2, i, 0), 1);
+        }
         due("another lane", x.sheet(1, 0, 1), 1);
         due("another lane", x.item(1, 2, 0, 1), CAST);
         due("shorter", x.item(1, 0, 1, 1), INDEX);
@@ -1073,5 +1131,47 @@ public final class PromisesTest {
             due("no sheet", x.copy(0, 0, k, 0, 0), BAD);
             due("BAD ahead of NULL", x.copy(3, 0, k, 0, 0), BAD);
         }
+    }
+
+    /** What is done to a register of six wheels, the most there are, leaves all others alone. */
+    private static void allSixWheels() {
+        RestRegisters x = with("p19,p17,p16,p15;p13,p11");
+        int span = 11085360;
+        long[] numbers = {11085359, 77519, 5000011, 123457};
+        for (int register = 0; register < 4; register++) {
+            x.lay(register, (int) numbers[register]);
+        }
+        for (int register = 0; register < 4; register++) {
+            int other = (register + 1) % 4;
+            numbers[register] = (numbers[register] + numbers[other]) % span;
+            due("add", x.add(register, other), numbers[register]);
+            numbers[register] = numbers[register] * numbers[other] % span;
+            due("times", x.times(register, other), numbers[register]);
+            numbers[register] = span - numbers[register];
+            due("negate", x.negate(register), numbers[register]);
+            for (int one = 0; one < 4; one++) {
+                due("register " + one, x.at(one, 0), numbers[one]);
+                due("should", x.should(one, register), 0);
+            }
+        }
+        due("take", x.take(3, 0), numbers[0]);
+        due("slip", x.slip(3, 5, (int) ((numbers[0] + 1) % 11)), numbers[0] % 11);
+        due("all are PLAIN", x.count(5), 63);
+        // 16 and 15 and 13 and 11 are 34320, below RANGE.
+        due("apart", x.apart(), 2);
+        x.lay(3, 77519);
+        x.sheet(0, 0, 6);
+        due("film", x.film(3, 0, 0, 0), 6);
+        due("rubbed", x.rubbed(0, 0, 0, 0), 1);
+        due("rubbed", x.rubbed(0, 0, 0, 1), 77519);
+        x.slip(3, 0, 0);
+        due("blame", x.blame(3), 1);
+        due("nearest", x.nearest(3, 0), 77519);
+        due("nearest", x.nearest(3, 1), 1);
+        x.lay(2, 77518);
+        // All six turn (77519), or those of 19, 16, 15, 13 alone (18239): 1 and 81 of a million.
+        due("unseen: above", x.unseen(2, 1, 0), 41);
+        due("unseen: below", x.unseen(2, 1, 1), 500000);
+        due("again", x.again(3, 2), NONE);
     }
 }
