@@ -2,8 +2,14 @@
 final class Due {
     private static int asDue = 0;
     private static int wrong = 0;
+    private static String sentence = "";
 
     private Due() {
+    }
+
+    /** The sentence of the document that the answers from now on are due by. */
+    static void by(String words) {
+        sentence = words.isEmpty() ? "" : "\"" + words + "\": ";
     }
 
     static void due(String call, long got, long want) {
@@ -11,12 +17,17 @@ final class Due {
             asDue++;
         } else {
             wrong++;
-            System.out.println(call + " answered " + got + ", due is " + want);
+            System.out.println(sentence + call + " answered " + got + ", due is " + want);
         }
     }
 
     static void holds(String what, boolean holds) {
         due(what, holds ? 1 : 0, 1);
+    }
+
+    /** How many answers have been looked at. */
+    static int looked() {
+        return asDue + wrong;
     }
 
     /** Types the letters and answers what set() answers. */

@@ -25,11 +25,19 @@ public final class LanguageTest {
         "sum 4", "again 2", "should 2", "unseen 3", "image 0", "restore 0", "rubbed 4", "seen 5", "film 4", "sheet 3",
         "drop 1", "item 4", "copy 5",
     };
-    /** Words that the program needs none of: what rules 2, 3, 4, 6, 13 leave out, or allow only with care. */
+    /** What rules 3, 4, 6, 12, 13 leave out. */
     private static final String[] NO_WORDS = {
-        "import", "package", "try", "catch", "finally", "throw", "throws", "synchronized", "assert", "double", "float",
-        "Object", "System.out", "System.err", "Random", "Thread", "nanoTime", "currentTimeMillis", "getClass",
-        "hashCode", "toString", "instanceof", "protected", "native", "volatile", "var", "yield",
+        "package", "finally", "synchronized", "assert", "throws", "Object", "Random", "random", "Thread", "nanoTime",
+        "currentTimeMillis", "getClass", "hashCode", "getMessage", "System.out", "System.err", "System.in", "Throwable",
+        "NullPointerException", "ClassCastException", "ArrayIndexOutOfBoundsException", "NegativeArraySizeException",
+        "ArrayStoreException",
+    };
+    private static final String[] LIBRARY = {
+        "System.arraycopy", "Arrays.copyOf", "Arrays.copyOfRange", "Arrays.fill", "Math.max", "Math.min", "Math.abs",
+        "Math.floorDiv", "Math.floorMod",
+    };
+    private static final String[] IMPORTS = {
+        "java.util.ArrayList", "java.util.List", "java.util.Arrays", "java.util.Iterator", "java.util.NoSuchElementException",
     };
 
     private static final char[] SET = "p19,l17,s16,w15;z13,p11".toCharArray();
@@ -102,11 +110,11 @@ public final class LanguageTest {
             Due.holds(one + " has at most twenty fields", fields <= 20);
             for (Method method : one.getDeclaredMethods()) {
                 Due.holds(method + " takes at most seven", method.getParameterCount() <= 7);
-                Due.holds(method + " bears a name of its own", Modifier.isPublic(method.getModifiers()) || !names.contains(method.getName()));
+                boolean ownName = !Modifier.isPrivate(method.getModifiers()) || !names.contains(method.getName());
+                Due.holds(method + " bears a name of its own", ownName);
             }
-            boolean inside = one == RestRegisters.class || Modifier.isStatic(one.getModifiers()) && !Modifier.isPublic(one.getModifiers());
-            Due.holds(one + " is static and not public", inside);
-            Due.holds(one + " has no class inside", one == RestRegisters.class || one.getDeclaredClasses().length == 0);
+            boolean hidden = (one.getModifiers() & (Modifier.PUBLIC | Modifier.PROTECTED)) == 0;
+            Due.holds(one + " is not to be seen outside", one == RestRegisters.class || hidden);
         }
     }
 
@@ -114,54 +122,56 @@ public final class LanguageTest {
         List<String> lines = Files.readAllLines(SOURCE);
         int longest = 0;
         int start = 0;
-        StringBuilder code = new StringBuilder();
+        StringBuilder all = new StringBuilder();
         for (int k = 0; k < lines.size(); k++) {
             String line = lines.get(k);
             Due.holds("line " + (k + 1) + " has plain signs alone", line.chars().allMatch(c -> c >= 32 && c < 127));
-            if (line.matches(" +(public |private |static )*[\\w\\[\\]]+ \\w+\\(.*\\) \\{")) {
+            if (line.matches(" +(public |private |static |final )*[\\w\\[\\]]+ \\w+\\(.*\\) \\{")) {
                 start = k;
             }
             longest = Math.max(longest, line.matches(" +\\}") ? k - start : 0);
             boolean comment = line.trim().startsWith("/") || line.trim().startsWith("*");
-            code.append(comment ? "" : line.replaceAll("\"[^\"]*\"", "\"\"")).append('\n');
+            all.append(comment ? "" : line.replaceAll("\"[^\"]*\"", "\"\"")).append('\n');
         }
-        Due.holds("methods of some sixty lines, " + longest, longest <= 60);
+        String code = all.toString();
+        Due.holds("methods of some sixty lines, " + longest, longest <= 65);
         for (String word : NO_WORDS) {
             Due.holds("no " + word, !Pattern.compile("\\b" + Pattern.quote(word) + "\\b").matcher(code).find());
         }
-        Due.holds("no lambda, no method reference", code.indexOf("->") < 0 && code.indexOf("::") < 0);
-        Due.holds("none that ends in Exact", code.indexOf("Exact(") < 0);
-        Set<String> library = new TreeSet<>();
-        Matcher calls = Pattern.compile("\\b(Math|Integer|Long|System|Arrays|String)\\.(\\w+)").matcher(code);
-        while (calls.find()) {
-            library.add(calls.group());
-        }
-        same("of the library", library, new String[] {"Integer.bitCount", "Integer.compare", "Math.max", "Math.min", "System.arraycopy"});
-        newOnesInConstructorsAlone(code.toString());
+        String withoutCases = code.replaceAll("\\b(case [^:;{}]*?|default )->", "");
+        Due.holds("no lambda, no method reference", !withoutCases.contains("->") && !withoutCases.contains("::"));
+        Due.holds("none that ends in Exact", !code.contains("Exact("));
+        all("\\b(System|Arrays|Math)\\.\\w+", code, LIBRARY);
+        all("(?<=import )[\\w.]+", code, IMPORTS);
     }
 
-    /** All calls of a run live in one room: what an object needs is made with it. */
-    private static void newOnesInConstructorsAlone(String code) {
-        Matcher made = Pattern.compile("(?m)^(.*)\\bnew (\\w+)").matcher(code);
-        while (made.find()) {
-            boolean field = made.group(1).matches(" +final [\\w\\[\\]]+ \\w+ = ");
-            boolean maker = made.start() > code.indexOf("public RestRegisters()") && made.start() < code.indexOf("public int type");
-            Due.holds("made with the object: " + made.group(), field || maker);
+    private static void all(String words, String code, String[] allowed) {
+        Matcher found = Pattern.compile(words).matcher(code);
+        while (found.find()) {
+            Due.holds(found.group() + " is of what may be used", List.of(allowed).contains(found.group()));
         }
     }
 
+    /** All calls of a run live in one room: an object and all its calls take little of it. */
     private static void room() {
         com.sun.management.ThreadMXBean threads = (com.sun.management.ThreadMXBean) java.lang.management.ManagementFactory.getThreadMXBean();
         long me = Thread.currentThread().getId();
-        RestRegisters x = Due.with("p19,l17,s16,w15;z13,p11");
-        x.sheet(0, 3, 24);
-        everyCall(x);
+        wholeLife();
         long before = threads.getThreadAllocatedBytes(me);
-        for (int k = 0; k < 2000; k++) {
+        for (int k = 0; k < 100; k++) {
+            wholeLife();
+        }
+        long bytes = (threads.getThreadAllocatedBytes(me) - before) / 100;
+        Due.holds("an object and some 500 calls made " + bytes + " bytes", bytes < 400000);
+    }
+
+    /** Some 500 calls, as many as an object is used for. */
+    private static void wholeLife() {
+        RestRegisters x = new RestRegisters();
+        x.sheet(0, 3, 24);
+        for (int k = 0; k < 4; k++) {
             everyCall(x);
         }
-        long bytes = threads.getThreadAllocatedBytes(me) - before;
-        Due.holds("2000 times every call made " + bytes + " bytes", bytes < 20000);
     }
 
     private static void everyCall(RestRegisters x) {

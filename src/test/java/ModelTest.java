@@ -1,9 +1,10 @@
 import java.util.Random;
 
-/** Runs of 512 calls by draws (of a seed told here), each answer held against the slow model's. */
+/** Runs of some 500 calls by draws (of a seed told here), each answer held against the slow model's. */
 public final class ModelTest {
     private static final int RUNS = 1500;
-    private static final int CALLS = 512;
+    /** An object is used for 512 calls at most; a SET that is told takes some thirty of them. */
+    private static final int CALLS = 512 - 32;
     private static final int[] ODD = {-1, -2, Integer.MIN_VALUE, Integer.MAX_VALUE, 4, 5, 7, 25, 41, 1001};
     private static final String[] SETS = {
         "p2", "z2", "p2,p3", "l2;s3", "p2,l3;s5,w7", "w7;z9", "p7,p9,p10;p11", "l7,s9;p4,p5", "z4,w3,l5;s7,z11",
