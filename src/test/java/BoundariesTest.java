@@ -30,6 +30,7 @@ public final class BoundariesTest {
         sheetDrop(s);
         item(s);
         copy(s);
+        s.allUnder("Promise ");
         s.end("BoundariesTest");
     }
 
@@ -56,19 +57,6 @@ public final class BoundariesTest {
             long[] call = numbers.clone();
             call[place] = odd;
             bad(name, call);
-        }
-    }
-
-    private static void rests(RestRegisters x, int register, int... want) {
-        for (int wheel = 0; wheel < want.length; wheel++) {
-            due("rest(" + register + ", " + wheel + ")", x.rest(register, wheel), want[wheel]);
-        }
-    }
-
-    private static void fill(RestRegisters x, int sheet, int lane, long... items) {
-        due("sheet", x.sheet(sheet, lane, items.length), items.length);
-        for (int i = 0; i < items.length; i++) {
-            due("item " + i, x.item(sheet, lane, i, items[i]), 1);
         }
     }
 
@@ -305,7 +293,7 @@ public final class BoundariesTest {
             RestRegisters odd = Midway.made();
             // 0 by 1; 0 by 1; 10 is lazy; 2, 2, 2 of s5; 0 by 1.
             due("252 by 43", odd.times(0, 1), 1386);
-            rests(odd, 0, 0, 0, 0, 1, 0);
+            Due.rests(odd, 0, 0, 0, 0, 1, 0);
         });
         s.test("BAD.", () -> {
             badOutside(4, 0, "times", 0, 1);
@@ -687,7 +675,7 @@ public final class BoundariesTest {
         s.test("RUBBED by as many items of a SHEET as there are WHEELS, taken as a row of a LANE, from item i on: how many (what 0), "
                 + "the least (1; NONE);", () -> {
             RestRegisters x = with("p2;p3");
-            fill(x, 0, 1, -1, -1, 1, 1, -1, 2);
+            Due.fill(x, 0, 1, -1, -1, 1, 1, -1, 2);
             int[] many = {2, 1, 1, 1, 0};
             int[] least = {0, 1, 1, 1, NONE};
             for (int i = 0; i < 5; i++) {
@@ -696,7 +684,7 @@ public final class BoundariesTest {
             }
             due("from 5", x.rubbed(0, 1, 5, 0), INDEX);
             RestRegisters wide = with(WIDEST);
-            fill(wide, 3, 3, -1, -1, -1, -1, -1, -1);
+            Due.fill(wide, 3, 3, -1, -1, -1, -1, -1, -1);
             due("all rubbed out: how many", wide.rubbed(3, 3, 0, 0), WIDEST_RANGE);
             due("all rubbed out: the least", wide.rubbed(3, 3, 0, 1), 0);
             wide.lay(0, WIDEST_RANGE - 1);
@@ -719,16 +707,16 @@ public final class BoundariesTest {
         s.test("an item that is no REST, nor -1, fits none.", () -> {
             RestRegisters x = with("p2;p19");
             for (long odd : new long[] {2, -2, 1L << 32, (1L << 32) - 1, -(1L << 32) - 1, Long.MIN_VALUE, Long.MAX_VALUE}) {
-                fill(x, 0, 3, odd, -1, odd);
+                Due.fill(x, 0, 3, odd, -1, odd);
                 for (int i = 0; i < (odd == 2 ? 1 : 2); i++) {
                     due(odd + ": how many", x.rubbed(0, 3, i, 0), 0);
                     due(odd + ": the least", x.rubbed(0, 3, i, 1), NONE);
                 }
             }
-            fill(x, 1, 0, -1, 18, -1, 19);
+            Due.fill(x, 1, 0, -1, 18, -1, 19);
             due("18 is a REST of 19, but of none below 2", x.rubbed(1, 0, 0, 0), 0);
             due("19 is none", x.rubbed(1, 0, 2, 0), 0);
-            fill(x, 1, 0, 255, 256);
+            Due.fill(x, 1, 0, 255, 256);
             due("255 is -1, 256 is 0 of bytes", x.rubbed(1, 0, 0, 0), 1);
         });
         s.test("BAD; NULL; CAST; INDEX.", () -> {
@@ -777,11 +765,11 @@ public final class BoundariesTest {
             due("the last alone", x.seen(1, 0, 2, 21, 1), 5);
             long[][] odd = {{7, 0, 0}, {0, 7, 0}, {0, 0, 7}, {-1, 0, 0}, {0, -1, 0}, {0, 0, -1}, {-1, 1, 0}, {1, -1, 0}};
             for (long[] three : odd) {
-                fill(x, 1, 1, three);
+                Due.fill(x, 1, 1, three);
                 due("no REST", x.seen(1, 1, 1, 0, 1), 0);
             }
             for (int place = 0; place < 3; place++) {
-                fill(x, 2, 3, 0, 0, 0);
+                Due.fill(x, 2, 3, 0, 0, 0);
                 due("all 0", x.seen(1, 2, 3, 0, 1), 31);
                 x.item(2, 3, place, 1L << 32);
                 due("no REST by all its bits", x.seen(1, 2, 3, 0, 1), 0);
@@ -813,7 +801,7 @@ public final class BoundariesTest {
             RestRegisters x = with("p19,p17");
             x.lay(3, 18 + 19 * 15);
             for (int lane = 0; lane < 4; lane++) {
-                fill(x, lane, lane, 1, 2, 3, 4, 5);
+                Due.fill(x, lane, lane, 1, 2, 3, 4, 5);
                 due("film at 0", x.film(0, lane, lane, 0), 2);
                 due("film at the end", x.film(3, lane, lane, 3), 2);
             }
@@ -850,7 +838,7 @@ public final class BoundariesTest {
                 due("the last item is 0", n == 0 ? 0 : x.rubbed(2, n % 4, n - 1, 1), 0);
                 due("the last item", n == 0 ? 1 : x.item(2, n % 4, n - 1, 7), 1);
             }
-            fill(x, 2, 0, 5, 5, 5);
+            Due.fill(x, 2, 0, 5, 5, 5);
             due("new, of the same lane", x.sheet(2, 0, 3), 3);
             row(x, 2, 0, 0, 0, 0);
             due("the others hold nothing", x.drop(1), NULL);
@@ -896,7 +884,7 @@ public final class BoundariesTest {
             RestRegisters x = with("p19");
             int[] bits = {8, 16, 32};
             for (int lane = 0; lane < 4; lane++) {
-                fill(x, 0, lane, 1, 2, 3);
+                Due.fill(x, 0, lane, 1, 2, 3);
                 due("the first", x.item(0, lane, 0, 18), 1);
                 due("the last", x.item(0, lane, 2, 17), 1);
                 row(x, 0, lane, 18, 2, 17);
@@ -936,8 +924,8 @@ public final class BoundariesTest {
         s.test("n items of a SHEET from i on come to another one (or the same) from j on, as if all were taken ahead: n.", () -> {
             for (int lane = 0; lane < 4; lane++) {
                 RestRegisters x = with("p19");
-                fill(x, 0, lane, 1, 2, 3, 4, 5);
-                fill(x, 1, lane, 11, 12, 13);
+                Due.fill(x, 0, lane, 1, 2, 3, 4, 5);
+                Due.fill(x, 1, lane, 11, 12, 13);
                 due("the last to the first", x.copy(0, 4, 1, 0, 1), 1);
                 row(x, 1, lane, 5, 12, 13);
                 due("as many as there are", x.copy(0, 2, 1, 0, 3), 3);

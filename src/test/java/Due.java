@@ -1,4 +1,4 @@
-/** What the tests share: counting answers that are not as due, and telling a SET by its letters. */
+/** What the tests share: counting answers that are not as due, telling a SET by its letters, filling a row. */
 final class Due {
     private static int asDue = 0;
     private static int wrong = 0;
@@ -42,6 +42,19 @@ final class Due {
         RestRegisters x = new RestRegisters();
         holds("'" + text + "' is a set", tell(x, text) > 0);
         return x;
+    }
+
+    static void rests(RestRegisters x, int register, int... want) {
+        for (int wheel = 0; wheel < want.length; wheel++) {
+            due("rest(" + register + ", " + wheel + ")", x.rest(register, wheel), want[wheel]);
+        }
+    }
+
+    static void fill(RestRegisters x, int sheet, int lane, long... items) {
+        due("sheet", x.sheet(sheet, lane, items.length), items.length);
+        for (int i = 0; i < items.length; i++) {
+            due("item " + i, x.item(sheet, lane, i, items[i]), 1);
+        }
     }
 
     static void end(String test) {

@@ -24,13 +24,6 @@ public final class PromisesTest {
         }
     }
 
-    private static void fill(RestRegisters x, int sheet, int lane, long... items) {
-        due("sheet", x.sheet(sheet, lane, items.length), items.length);
-        for (int i = 0; i < items.length; i++) {
-            due("item " + i, x.item(sheet, lane, i, items[i]), 1);
-        }
-    }
-
     public static void main(String[] args) {
         promise1NewObject();
         promise2Type();
@@ -898,14 +891,14 @@ public final class PromisesTest {
 
     private static void promise29Rubbed() {
         RestRegisters x = with("p7,p9,p10;p11,p13");
-        fill(x, 0, 0, -1, -1, -1, -1, -1, -1);
+        Due.fill(x, 0, 0, -1, -1, -1, -1, -1, -1);
         due("all rubbed out", x.rubbed(0, 0, 0, 0), 630);
         due("the least", x.rubbed(0, 0, 0, 1), 0);
         due("at the end", x.rubbed(0, 0, 1, 0), 630);
         due("behind the end", x.rubbed(0, 0, 2, 0), INDEX);
         due("ahead of the row", x.rubbed(0, 0, -1, 0), INDEX);
         due("far behind it", x.rubbed(0, 0, GREATEST, 0), INDEX);
-        fill(x, 1, 3, 0, 3, -1, -1, -1, -1);
+        Due.fill(x, 1, 3, 0, 3, -1, -1, -1, -1);
         // 3 by 7: 3, 10, .. 626.
         due("one told", x.rubbed(1, 3, 1, 0), 90);
         due("one told: the least", x.rubbed(1, 3, 1, 1), 3);
@@ -933,7 +926,7 @@ public final class PromisesTest {
         x.film(0, 0, 0, 0);
         due("RANGE less 1", x.rubbed(0, 0, 0, 0), 1);
         due("RANGE less 1", x.rubbed(0, 0, 0, 1), 629);
-        fill(x, 1, 3, 0, 0, -1, -1, -1, -1);
+        Due.fill(x, 1, 3, 0, 0, -1, -1, -1, -1);
         for (long odd : new long[] {7, -2, (1L << 32) + 1, (1L << 32) - 1, Long.MIN_VALUE, Long.MAX_VALUE}) {
             x.item(1, 3, 1, odd);
             due("no rest: " + odd, x.rubbed(1, 3, 1, 0), 0);
@@ -954,7 +947,7 @@ public final class PromisesTest {
     private static void promise30Seen() {
         RestRegisters x = with("p6;w7");
         // A PLAIN sum, of which a WORN one says 0, a STICKING one says 2.
-        fill(x, 0, 1, 9, 2, 3, 5, 2, 2, 4, 2, 1, 3);
+        Due.fill(x, 0, 1, 9, 2, 3, 5, 2, 2, 4, 2, 1, 3);
         due("one", x.seen(0, 0, 1, 1, 1), 31);
         due("two", x.seen(0, 0, 1, 1, 2), 23);
         due("three", x.seen(0, 0, 1, 1, 3), 3);
@@ -965,18 +958,18 @@ public final class PromisesTest {
         long[] shown = {3, 2, 5, 4, 6, -1, 259};
         int[] kinds = {5, 10, 16, 0, 0, 0, 0};
         for (int k = 0; k < shown.length; k++) {
-            fill(x, 2, 3, 5, 4, shown[k]);
+            Due.fill(x, 2, 3, 5, 4, shown[k]);
             due("5 and 4 shown as " + shown[k], x.seen(0, 2, 3, 0, 1), kinds[k]);
         }
         // The kind of the wheel is of no matter, its width is: 5 and 4 of 7.
-        fill(x, 2, 3, 5, 4, 2);
+        Due.fill(x, 2, 3, 5, 4, 2);
         due("of 7", x.seen(1, 2, 3, 0, 1), 5);
         long[][] odd = {{6, 0, 0}, {0, 6, 0}, {-1, 1, 0}, {1, -1, 0}, {1L << 32, 0, 0}, {0, 1L << 32, 0}, {0, 0, 1L << 32}};
         for (long[] three : odd) {
-            fill(x, 3, 3, three);
+            Due.fill(x, 3, 3, three);
             due("no rest", x.seen(0, 3, 3, 0, 1), 0);
         }
-        fill(x, 1, 0, new long[24]);
+        Due.fill(x, 1, 0, new long[24]);
         due("eight", x.seen(0, 1, 0, 0, 8), 31);
         due("nine", x.seen(0, 1, 0, 0, 9), BAD);
         due("none", x.seen(0, 1, 0, 0, 0), BAD);
@@ -997,7 +990,7 @@ public final class PromisesTest {
         RestRegisters x = with("p7,p9,p10;p11,p13");
         x.lay(2, 333);
         for (int lane = 0; lane < 4; lane++) {
-            fill(x, 1, lane, -1, -1, -1, -1, -1, -1, 4);
+            Due.fill(x, 1, lane, -1, -1, -1, -1, -1, -1, 4);
             due("film", x.film(2, 1, lane, 1), 5);
             due("what came there", x.rubbed(1, lane, 1, 1), 333);
             due("how many", x.rubbed(1, lane, 1, 0), 1);
@@ -1011,7 +1004,7 @@ public final class PromisesTest {
         due("NULL", x.film(2, 0, 0, 99), NULL);
         RestRegisters one = with("p19");
         one.lay(0, 18);
-        fill(one, 0, 0, 7, 7, 7);
+        Due.fill(one, 0, 0, 7, 7, 7);
         due("film of one wheel", one.film(0, 0, 0, 1), 1);
         row("the items beside it stay", one, 0, 0, 7, 18, 7);
         for (int k : OUTSIDE) {
@@ -1041,7 +1034,7 @@ public final class PromisesTest {
             due("no sheet", x.sheet(k, 0, 1), BAD);
             due("no lane", x.sheet(0, k, 1), BAD);
         }
-        fill(x, 1, 2, 3, 3);
+        Due.fill(x, 1, 2, 3, 3);
         due("a new row", x.sheet(1, 2, 2), 2);
         for (int i = 0; i < 2; i++) {
             due("a new row is 0", x.rubbed(1, 2, i, 1), 0);
@@ -1104,8 +1097,8 @@ public final class PromisesTest {
 
     private static void promise35Copy() {
         RestRegisters x = with("p19");
-        fill(x, 0, 2, 1, 2, 3, 4, 5);
-        fill(x, 1, 2, 11, 12, 13);
+        Due.fill(x, 0, 2, 1, 2, 3, 4, 5);
+        Due.fill(x, 1, 2, 11, 12, 13);
         due("copy", x.copy(0, 2, 1, 1, 2), 2);
         row("copy", x, 1, 2, 11, 3, 4);
         row("copy", x, 0, 2, 1, 2, 3, 4, 5);

@@ -73,6 +73,13 @@ final class Sentences {
         }
     }
 
+    /** Of headings that begin so none may be left out. */
+    void allUnder(String start) {
+        for (String one : texts.keySet()) {
+            Due.holds("tests for what stands under " + one, !one.startsWith(start) || quoted.containsKey(one));
+        }
+    }
+
     void end(String test) {
         for (Map.Entry<String, BitSet> one : quoted.entrySet()) {
             String text = texts.getOrDefault(one.getKey(), "");

@@ -45,19 +45,6 @@ public final class TermsTest {
         due("set of '" + text + "'", Due.tell(new RestRegisters(), text), want);
     }
 
-    private static void rests(RestRegisters x, int register, int... want) {
-        for (int wheel = 0; wheel < want.length; wheel++) {
-            due("rest(" + register + ", " + wheel + ")", x.rest(register, wheel), want[wheel]);
-        }
-    }
-
-    private static void fill(RestRegisters x, int sheet, int lane, long... items) {
-        due("sheet", x.sheet(sheet, lane, items.length), items.length);
-        for (int i = 0; i < items.length; i++) {
-            due("item " + i, x.item(sheet, lane, i, items[i]), 1);
-        }
-    }
-
     private static int commonPart(int a, int b) {
         int part = 1;
         for (int k = 2; k <= a; k++) {
@@ -269,7 +256,7 @@ public final class TermsTest {
         s.test("REGISTERS 0 .. 3 show a REST for each WHEEL (0 .. WIDTH less 1; 0 at first).", () -> {
             RestRegisters x = with("p19,l2");
             for (int register = 0; register <= 3; register++) {
-                rests(x, register, 0, 0);
+                Due.rests(x, register, 0, 0);
                 due("to the greatest", x.slip(register, 0, 18), 0);
                 due("to the least", x.slip(register, 0, 0), 18);
                 due("too great", x.slip(register, 0, 19), BAD);
@@ -293,7 +280,7 @@ public final class TermsTest {
             for (int number = 0; number < 60; number++) {
                 x.lay(1, number);
                 due("VALUE of " + number, x.at(1, 0), number);
-                rests(x, 1, number % 4, number % 3, number % 5);
+                Due.rests(x, 1, number % 4, number % 3, number % 5);
             }
             RestRegisters y = with(WIDEST);
             for (int wheel = 0; wheel < 6; wheel++) {
@@ -415,9 +402,9 @@ public final class TermsTest {
         s.test("LAID: a REGISTER shows RESTS of a number.", () -> {
             RestRegisters x = with("p2,l3;s5,w7");
             x.lay(2, 209);
-            rests(x, 2, 1, 2, 4, 6);
+            Due.rests(x, 2, 1, 2, 4, 6);
             x.lay(2, 0);
-            rests(x, 2, 0, 0, 0, 0);
+            Due.rests(x, 2, 0, 0, 0, 0);
         });
         s.test("ADDED, TIMES: each REST of a REGISTER becomes what its WHEEL makes of it and that of another REGISTER (or the same).", () -> {
             for (int other = 0; other < 4; other++) {
@@ -427,31 +414,31 @@ public final class TermsTest {
         s.test("TURNED about: each REST that is not 0 becomes WIDTH less it.", () -> {
             RestRegisters x = with("p2,l3;s5,w7");
             x.lay(0, 126);
-            rests(x, 0, 0, 0, 1, 0);
+            Due.rests(x, 0, 0, 0, 1, 0);
             x.negate(0);
-            rests(x, 0, 0, 0, 4, 0);
+            Due.rests(x, 0, 0, 0, 4, 0);
             x.lay(0, 209);
             x.negate(0);
-            rests(x, 0, 1, 1, 1, 1);
+            Due.rests(x, 0, 1, 1, 1, 1);
             x.negate(1);
-            rests(x, 1, 0, 0, 0, 0);
+            Due.rests(x, 1, 0, 0, 0, 0);
         });
         s.test("SLIPPED: one REST becomes another one.", () -> {
             RestRegisters x = with("p2,l3;s5,w7");
             x.slip(1, 2, 4);
-            rests(x, 1, 0, 0, 4, 0);
-            rests(x, 0, 0, 0, 0, 0);
+            Due.rests(x, 1, 0, 0, 4, 0);
+            Due.rests(x, 0, 0, 0, 0, 0);
             x.slip(1, 2, 0);
-            rests(x, 1, 0, 0, 0, 0);
+            Due.rests(x, 1, 0, 0, 0, 0);
         });
         s.test("TAKEN over: a REGISTER shows what another one does.", () -> {
             RestRegisters x = with("p2,l3;s5,w7");
             x.lay(3, 209);
             x.take(0, 3);
-            rests(x, 0, 1, 2, 4, 6);
-            rests(x, 3, 1, 2, 4, 6);
+            Due.rests(x, 0, 1, 2, 4, 6);
+            Due.rests(x, 3, 1, 2, 4, 6);
             x.lay(3, 0);
-            rests(x, 0, 1, 2, 4, 6);
+            Due.rests(x, 0, 1, 2, 4, 6);
         });
     }
 
@@ -469,10 +456,10 @@ public final class TermsTest {
             }
         }
         x.add(1, other);
-        rests(x, 1, want[0]);
+        Due.rests(x, 1, want[0]);
         x.undo();
         x.times(1, other);
-        rests(x, 1, want[1]);
+        Due.rests(x, 1, want[1]);
         for (int register = 0; register < 4; register++) {
             due("register " + register, register == 1 || x.at(register, 0) == numbers[register] ? 1 : 0, 1);
         }
@@ -558,7 +545,7 @@ public final class TermsTest {
             RestRegisters y = with("p2;p19,p17");
             // 0 and 1 are other ones everywhere: 18 and 16 with 0 are nearer to 0 by the 2, with 1 to 1.
             y.lay(0, 645);
-            rests(y, 0, 1, 18, 16);
+            Due.rests(y, 0, 1, 18, 16);
             due("all checks are other ones: which", y.nearest(0, 0), 1);
             due("all checks are other ones: how many", y.nearest(0, 1), 2);
         });
@@ -692,19 +679,19 @@ public final class TermsTest {
             int[] many = {4, 1, 1, 2, 1, 1, 1, 1, 0, 0};
             int[] least = {0, 0, 3, 0, 1, 2, 0, 3, NONE, NONE};
             for (int k = 0; k < rows.length; k++) {
-                fill(x, 0, 0, rows[k]);
+                Due.fill(x, 0, 0, rows[k]);
                 due("how many, row " + k, x.rubbed(0, 0, 0, 0), many[k]);
                 due("the least, row " + k, x.rubbed(0, 0, 0, 1), least[k]);
             }
         });
         s.test("SEEN: a row tells sums by threes: a, b, what a WHEEL showed: KINDS (a set) by which all are so.", () -> {
             RestRegisters x = with("p5");
-            fill(x, 0, 0, 0, 0, 0, 4, 4, 3, 4, 1, 0, 3, 4, 2);
+            Due.fill(x, 0, 0, 0, 0, 0, 4, 4, 3, 4, 1, 0, 3, 4, 2);
             due("0 and 0: all", x.seen(0, 0, 0, 0, 1), 31);
             due("4 and 4 is 3: PLAIN, STICKING", x.seen(0, 0, 0, 0, 2), 5);
             due("4 and 1 is 0: PLAIN", x.seen(0, 0, 0, 0, 3), 1);
             due("all four: PLAIN", x.seen(0, 0, 0, 0, 4), 1);
-            fill(x, 1, 0, 4, 4, 3, 4, 4, 2, 4, 4, 0, 4, 4, 4, 4, 4, 1);
+            Due.fill(x, 1, 0, 4, 4, 3, 4, 4, 2, 4, 4, 0, 4, 4, 4, 4, 4, 1);
             due("LOSING", x.seen(0, 1, 0, 3, 1), 2);
             due("WORN", x.seen(0, 1, 0, 6, 1), 8);
             due("LAZY", x.seen(0, 1, 0, 9, 1), 16);
@@ -756,7 +743,7 @@ public final class TermsTest {
             Due.tell(x, "p1");
             due("undo", x.undo(), 0);
             due("the draw is as ahead of it", x.seed(7), 5);
-            rests(x, 0, 0, 0);
+            Due.rests(x, 0, 0, 0);
             RestRegisters y = with("p19;p17");
             y.lay(1, 321);
             y.drift(8);
@@ -913,7 +900,7 @@ public final class TermsTest {
             due("the draw", x.seed(99), 99);
             due("a set of more wheels", Due.tell(x, "p2,l3;s5,w7"), 4);
             for (int register = 0; register < 4; register++) {
-                rests(x, register, 0, 0, 0, 0);
+                Due.rests(x, register, 0, 0, 0, 0);
             }
         });
     }
