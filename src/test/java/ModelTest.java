@@ -1,10 +1,12 @@
 import java.util.Random;
 
-/** Runs of some 500 calls by draws (of a seed told here), each answer held against the slow model's. */
+/** Runs of 512 calls by draws (of a seed told here), each answer held against the slow model's. */
 public final class ModelTest {
     private static final int RUNS = 1500;
-    /** An object is used for 512 calls at most; a SET that is told takes some thirty of them. */
-    private static final int CALLS = 512 - 32;
+    /** An object is used for so many calls. */
+    private static final int CALLS = 512;
+    /** A SET that is told takes at most so many of them. */
+    private static final int TELLING = 32;
     private static final int[] ODD = {-1, -2, Integer.MIN_VALUE, Integer.MAX_VALUE, 4, 5, 7, 25, 41, 1001};
     private static final String[] SETS = {
         "p2", "z2", "p2,p3", "l2;s3", "p2,l3;s5,w7", "w7;z9", "p7,p9,p10;p11", "l7,s9;p4,p5", "z4,w3,l5;s7,z11",
@@ -39,9 +41,17 @@ public final class ModelTest {
         if (run % 10 != 0) {
             tell(SETS[draws.nextInt(SETS.length)]);
         }
-        while (calls < CALLS) {
+        while (calls < CALLS - TELLING) {
             oneCall(draws.nextInt(run % 3 == 0 ? 40 : 37));
         }
+        while (calls < CALLS) {
+            if (draws.nextBoolean()) {
+                oneDone(draws.nextInt(10));
+            } else {
+                oneForetold(draws.nextInt(10));
+            }
+        }
+        Due.due("run " + run + ": how many calls", calls, CALLS);
     }
 
     private int below(int bound) {

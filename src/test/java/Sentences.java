@@ -15,6 +15,7 @@ import java.util.Map;
 final class Sentences {
     private static final Path DOCUMENT = Path.of("../shared/DOC.md");
 
+    private final Map<String, String> asWritten = new LinkedHashMap<>();
     private final Map<String, String> texts = new HashMap<>();
     private final Map<String, BitSet> quoted = new LinkedHashMap<>();
     private String heading = "";
@@ -27,7 +28,8 @@ final class Sentences {
         try {
             for (String part : Files.readString(DOCUMENT).split("(?m)^## ")) {
                 String[] two = part.split("\n", 2);
-                texts.put(two[0].trim(), folded(two.length == 2 ? two[1] : ""));
+                asWritten.put(two[0].trim(), two.length == 2 ? two[1] : "");
+                texts.put(two[0].trim(), folded(asWritten.get(two[0].trim())));
             }
         } catch (IOException e) {
             throw new UncheckedIOException(e);
@@ -37,6 +39,11 @@ final class Sentences {
     /** Without fences, and without the line of a call, which the test of the face looks at. */
     private static String folded(String text) {
         return text.replaceAll("(?m)^```.*$", " ").replaceAll("\\s+", " ").trim().replaceFirst("^`[^`]*`: ", "");
+    }
+
+    /** What stands under each heading, in the document's order, line by line; nothing, if there is no document. */
+    Map<String, String> asWritten() {
+        return asWritten;
     }
 
     /** What is quoted from now on stands under this heading. */

@@ -13,8 +13,6 @@ public final class TermsTest {
 
     public static void main(String[] args) {
         Sentences s = new Sentences();
-        s.under("What it is");
-        calls512(s);
         s.under("Terms");
         answersBelowNought(s);
         wheelsAndRegisters(s);
@@ -51,26 +49,6 @@ public final class TermsTest {
             part = a % k == 0 && b % k == 0 ? k : part;
         }
         return part;
-    }
-
-    private static void calls512(Sentences s) {
-        s.nothingToTest("Numbers told by their rests: a register is a few wheels side by side, of unlike sizes that have no "
-                + "common part, each shows what is left over by its size, so that a great number is told by little ones, "
-                + "and two are added wheel by wheel, none of which knows of the others, without any carry; some wheels are "
-                + "honest ones, by which it is told how great numbers may be, some are checks, by which it is found out that "
-                + "one of them has slipped; wheels of kinds, such as lose one as they pass nought, stick at one, are worn, or "
-                + "lazy; numbers laid, added, multiplied, turned about, a wheel turned by mistake, by draws, undone; what "
-                + "number it is, whether it may be, its mixed figures, which of two is greater, which one wheel is to blame, "
-                + "the nearest number that may be, how far those that may be are apart, what comes of so many sums, behind "
-                + "how many it is as before, how many sums a wheel gets wrong; numbers by rests of which some are rubbed "
-                + "out; of which kind a wheel is by its sums; the odds that slips go by unseen; sets of wheels as texts; "
-                + "images; sheets that may be missing.");
-        s.test("An object is used for at most 512 calls after it has been made; what later calls answer is free.", () -> {
-            RestRegisters x = with("p19");
-            for (int call = 5; call <= 512; call++) {
-                due("call " + call, x.lay(0, call % 19), call == 5 ? 0 : (call - 1) % 19);
-            }
-        });
     }
 
     private static void answersBelowNought(Sentences s) {
